@@ -19,7 +19,7 @@ public final class ModelTest {
 
     /** Mostly 0 to most; now and then one beyond it. */
     private static int near(int most) {
-        return random.nextInt(60) == 0 ? most + 1 : random.nextInt(most + 1);
+        return random.nextInt(400) == 0 ? most + 1 : random.nextInt(most + 1);
     }
 
     private static String law(boolean joys, int within) {
@@ -63,8 +63,8 @@ public final class ModelTest {
         int from = random.nextInt(random.nextBoolean() ? 60 : 6);
         optional(text, "open " + from + " to " + (from + 1 + random.nextInt(60 - from)));
         optional(text, "price " + near(random.nextBoolean() ? 999 : 30));
-        optional(text, "joys " + law(true, random.nextInt(4)));
-        optional(text, "wears " + law(false, random.nextInt(4)));
+        optional(text, "joys " + law(true, 1 + random.nextInt(5)));
+        optional(text, "wears " + law(false, 1 + random.nextInt(5)));
         return text.toString();
     }
 

@@ -167,6 +167,8 @@ public final class PromiseTest {
         CHECK.due("99", joyOf("99"), 99);
         CHECK.due("ints wrap: 4096 * 4096 * 256 is 0", joyOf("4096*4096*256"), 0);
         CHECK.due("ints wrap: 2^31 is below 0", joyOf("4096*4096*128"), -99);
+        CHECK.due("as much open at once as can be", joyOf("0 or 0<1+1*(0 or 0<1+1*(0 or 0<1+1*(0 or 0<1+1*(0 or 5<1+1*5))))"), 1);
+        CHECK.due("as long as can be", joyOf("7" + "+1-1".repeat(230)), 7);
         CHECK.due("without a law 3 - 5", Check.told("tune a 0 0 1;passer p plain plays a skill 3 shy 0 stays 1 comes 0;").joy(), -2);
         CHECK.due("wear by the key's own wear: 1, 2, 4", wearOf("used+(used=0)", 0), 4);
         CHECK.due("struck once", wearOf("used+(used=0)", 1), 1);
