@@ -1,19 +1,54 @@
+import java.io.IOException;
+import java.nio.file.Files;
+import java.nio.file.Path;
+import java.util.BitSet;
 import java.util.NoSuchElementException;
 
-/** What the tests share: answers that are due, texts that are fed, calls that throw. */
+/** What the tests share: answers that are due, texts that are fed, calls that throw, sentences of the document. */
 final class Check {
     interface Call {
         int of();
     }
 
+    private static final Path DOCUMENT = Path.of("../shared/DOC.md");
+    /** Arguments that are wrong for every call that takes a number from 0 or 1 on. */
+    static final int[] FAR = {Integer.MIN_VALUE, -2, Integer.MAX_VALUE};
+
+    private final String document = read();
+    private final BitSet named = new BitSet();
+    private String heading = "";
     private int wrong = 0;
     private int asked = 0;
+
+    private static String read() {
+        try {
+            return Files.exists(DOCUMENT) ? Files.readString(DOCUMENT).replaceAll("\\s+", " ") : null;
+        } catch (IOException e) {
+            return null;
+        }
+    }
+
+    /** What is asked from here on belongs to this promise, by this sentence of the document. */
+    void of(int promise, String sentence) {
+        heading = "promise " + promise + " (" + sentence + "): ";
+        named.set(promise);
+        if (document != null) {
+            due("this stands in the document", document.contains(sentence), true);
+        }
+    }
+
+    /** Each of these promises has had its sentences. */
+    void namesAll(int first, int last) {
+        for (int promise = first; promise <= last; promise++) {
+            due("promise " + promise + " is named", named.get(promise), true);
+        }
+    }
 
     void due(String call, long got, long want) {
         asked++;
         if (got != want) {
             wrong++;
-            System.out.println(call + " answered " + got + ", due is " + want);
+            System.out.println(heading + call + " answered " + got + ", due is " + want);
         }
     }
 
@@ -51,6 +86,20 @@ final class Check {
             throw new IllegalStateException("not a station: " + text);
         }
         return x;
+    }
+
+    static StationPiano planned(StationPiano x, String week) {
+        feed(x, week);
+        if (x.week() != 0) {
+            throw new IllegalStateException("not a week: " + week);
+        }
+        return x;
+    }
+
+    /** The line of one passer; his numbers: skill, shyness, how long he stays, when he comes. */
+    static String who(String name, String kind, String tune, int skill, int shy, int stays, int comes) {
+        return "passer " + name + " " + kind + " plays " + tune + " skill " + skill + " shy " + shy + " stays " + stays
+                + " comes " + comes + ";";
     }
 
     void end(String name) {
