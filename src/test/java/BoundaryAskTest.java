@@ -68,6 +68,11 @@ public final class BoundaryAskTest {
         CHECK.due("31, the first of those with all", late.hours(31), 29);
         CHECK.due("open from stays", late.count(4), 3);
         CHECK.due("open to stays", late.count(5), 4);
+        StationPiano two = Check.told("tune a 0;" + Check.who("p", "plain", "a", 1, 0, 30, 0) + Check.who("q", "plain", "a", 2, 0, 1, 50)
+                + "joys able*3-worn;");
+        CHECK.due("what one hour wears the next does not find", two.hours(1), 50);
+        CHECK.due("asked again", two.hours(1), 50);
+        CHECK.due("nothing is worn by it", two.key(0), 0);
         CHECK.of(20, "HOURS of so many minutes; NONE: others.");
         for (int wrong : new int[] {0, 61, -1, LOW, HIGH}) {
             CHECK.due("hours(" + wrong + ")", late.hours(wrong), -1);
@@ -93,6 +98,9 @@ public final class BoundaryAskTest {
         when("nobody, 0 paid", Check.told("price 0;"), 9, 0, 0);
         when("nobody, 1 paid", Check.told("price 1;"), 9, 0, -1);
         when("what is worn on the first day, ahead of the second or third", Check.told(ONE + "joys 0-worn;price 0;"), 3, -4, 1);
+        StationPiano behind = worn(Check.told(ONE + "joys 0-worn;price 7;"), 8);
+        behind.best(1);
+        when("asked behind another question", behind, 1, -8, 0);
         StationPiano x = worn(Check.told(ONE + "joys 0-worn;price 7;"), 8);
         x.mend();
         worn(x, 8);
@@ -180,6 +188,17 @@ public final class BoundaryAskTest {
         StationPiano full = Check.told("tune a 0;joys 99;" + Check.who("p", "plain", "a", 1, 0, 30, 0) + Check.who("q", "plain", "a", 1, 0, 30, 30));
         CHECK.due("just so much", full.rarer(5940), 0);
         CHECK.due("one more", full.rarer(5941), -1);
+        StationPiano wearing = Check.told("tune a 0;joys 20-worn-able;" + Check.who("p", "plain", "a", 1, 0, 1, 0)
+                + Check.who("q", "plain", "a", 2, 0, 1, 5) + Check.who("r", "plain", "a", 9, 0, 1, 10));
+        CHECK.due("18, 16, 8: all", wearing.rarer(42), 0);
+        CHECK.due("one more is too much", wearing.rarer(43), -1);
+        CHECK.due("asked again", wearing.rarer(42), 0);
+        StationPiano last = Check.told("tune a 0;joys 9-worn-9*same;" + Check.who("p", "plain", "a", 0, 0, 1, 0)
+                + Check.who("q", "plain", "a", 0, 0, 1, 5) + Check.who("r", "plain", "a", 0, 0, 1, 10));
+        CHECK.due("8, -2, -12: -6 by all", last.rarer(-6), 0);
+        CHECK.due("8 and -2 by two", last.rarer(-5), 1);
+        CHECK.due("6 by two", last.rarer(6), 1);
+        CHECK.due("8 by one, each as on a day of its own", last.rarer(8), 3);
         CHECK.of(24, "RARER, as bits; NONE: others, by none.");
         for (int wrong : new int[] {-10000, 10000, LOW, HIGH}) {
             CHECK.due("rarer(" + wrong + ")", x.rarer(wrong), -1);
@@ -296,6 +315,14 @@ public final class BoundaryAskTest {
         sets("all of seven", all, 128, 0, 127);
         all.find(0, 6);
         sets("all but one", all, 7, 0, 127);
+        all.find(0, 5);
+        sets("then none", all, 0, -1, -1);
+        StationPiano fewer = found("");
+        sets("all at first", fewer, 4, 0, 3);
+        fewer.find(1, 0);
+        sets("then without the second", fewer, 2, 0, 1);
+        fewer.find(0, 0);
+        sets("then the empty one", fewer, 1, 0, 0);
         StationPiano whole = Check.told(seven.toString());
         whole.find(0, 7);
         sets("the whole", whole, 1, 127, 127);
@@ -312,6 +339,17 @@ public final class BoundaryAskTest {
         CHECK.due("equal ones", equal.look(), 3);
         equal.find(3, 1);
         CHECK.due("the other one then", equal.look(), 9);
+        StationPiano often = found("");
+        for (int i = 0; i < 9; i++) {
+            CHECK.due("asked again", often.look(), 0);
+        }
+        StationPiano sure = Check.told("tune a 0 5;tune b 3;" + Check.who("p", "plain", "a", 1, 0, 1, 0) + Check.who("q", "plain", "b", 1, 0, 1, 0)
+                + Check.who("r", "plain", "b", 1, 0, 1, 0));
+        sure.find(0, 1);
+        CHECK.due("key 5 is 1 in all four, key 3 is 0, 1, 1, 2", sure.look(), 3);
+        StationPiano worn = Check.told("tune a 2 7 7;tune b 7;" + Check.who("p", "plain", "a", 1, 0, 1, 0) + Check.who("q", "plain", "b", 1, 0, 1, 0)
+                + "wears 9*(1<used)+(used<2);");
+        CHECK.due("key 7: 0, 1, 2, 9; key 2: two and two", worn.look(), 7);
         CHECK.of(29, "LOOK; NONE: none parts them.");
         equal.find(9, 0);
         CHECK.due("one set alone", equal.look(), -1);
@@ -339,6 +377,13 @@ public final class BoundaryAskTest {
             }
         }
         CHECK.due("41.666.. of 1000", Check.told(three + "1;").share(0), 41);
+        StationPiano again = Check.told(three + "7;");
+        for (int i = 0; i < 3; i++) {
+            Check.feed(again, ONE + "price 7;");
+            again.station();
+            CHECK.due("none of an older station pays", again.share(0), 7000);
+            CHECK.due("none of an older station", again.share(1), -1);
+        }
         CHECK.of(30, "SHARES; NONE: others.");
         for (int wrong : new int[] {-1, 1, 7, LOW, HIGH}) {
             CHECK.due("share(" + wrong + ")", Check.told(ONE).share(wrong), -1);
@@ -472,6 +517,10 @@ public final class BoundaryAskTest {
         }
         int paid = x.months(9999, 60, 2);
         CHECK.due("sixty days, somebody plays on each", x.months(9999, 60, 1), 60);
+        StationPiano before = Check.told(ONE + "wears 0;");
+        before.mend();
+        CHECK.due("what was paid before is not in it", before.months(1, 60, 2), 0);
+        CHECK.due("it is paid still", before.count(8), 60);
         for (int i = 0; i < 14; i++) {
             CHECK.due("all is as ahead: count(" + i + ")", x.count(i), counts[i]);
         }

@@ -164,6 +164,11 @@ public final class BoundaryDayTest {
         CHECK.due("a new tune", x.tune(0, 0), 5);
         CHECK.due("an older key is none", x.tune(0, 1), -1);
         CHECK.due("an older tune is none", x.tune(1, 0), -1);
+        Check.feed(x, "tune y 6;");
+        x.station();
+        CHECK.due("a third station's tune", x.tune(0, 0), 6);
+        CHECK.due("a key of the first station", x.tune(0, 1), -1);
+        CHECK.due("a tune of the first station", x.tune(1, 0), -1);
     }
 
     private static void keys() {
@@ -230,11 +235,47 @@ public final class BoundaryDayTest {
         }
     }
 
+    private static void askedAlone() {
+        String text = "tune a 0;" + plain("p", 0, 30, 0) + plain("q", 0, 30, 5);
+        CHECK.of(8, "(All of the DAY that comes, as all is now.)");
+        StationPiano x = Check.told(text);
+        x.joy();
+        x.open(3, 60);
+        CHECK.due("begins, asked first", x.begins(0), 3);
+        CHECK.of(9, "BEGINS, ENDS of a PASSER");
+        x.each(2);
+        CHECK.due("ends, asked first", x.ends(0), 5);
+        CHECK.of(10, "NOW of a minute: who plays.");
+        x.open(0, 60);
+        CHECK.due("now, asked first", x.now(0), 0);
+        CHECK.of(11, "AWAY: those who come and never play.");
+        x.each(30);
+        CHECK.due("away, asked first", x.away(), 2);
+        CHECK.of(12, "JOY of the DAY.");
+        x.open(0, 1);
+        CHECK.due("joy, asked first", x.joy(), 0);
+        x.day();
+        CHECK.due("joy, the next day", x.joy(), -1);
+        CHECK.due("joy, asked again", x.joy(), -1);
+    }
+
     private static void lineOrder() {
         CHECK.of(8, "those who come then stand in the LINE behind those who are there, by numbers");
         plays("by numbers", Check.told(A + plain("p", 0, 2, 5) + plain("q", 0, 2, 5) + plain("r", 0, 2, 5)), 5, 7, 7, 9, 9, 11);
         plays("who came first is ahead", Check.told(A + plain("p", 0, 2, 6) + plain("q", 0, 2, 5) + plain("r", 0, 2, 6) + "open 7 to 60;"),
                 9, 11, 7, 9, 11, 13);
+        StringBuilder seven = new StringBuilder(A);
+        int[] times = new int[14];
+        for (int p = 0; p < 7; p++) {
+            seven.append(plain("p" + (char) ('a' + p), p == 0 ? 5 : 0, 1, 0));
+        }
+        /* The first dares before four others at most: two go ahead of him, the others behind. */
+        int[] turns = {2, 0, 1, 3, 4, 5, 6};
+        for (int p = 0; p < 7; p++) {
+            times[2 * p] = turns[p];
+            times[2 * p + 1] = turns[p] + 1;
+        }
+        plays("seven at once", Check.told(seven + "waits 6;"), times);
         CHECK.of(9, "who plays and has played his minutes, or plays when it is not open, ends and goes");
         plays("one minute each", Check.told(A + plain("p", 0, 30, 0) + plain("q", 0, 30, 0) + "each 1;"), 0, 1, 1, 2);
         plays("no more than he stays", Check.told(A + plain("p", 0, 3, 0) + "each 4;"), 0, 3);
@@ -343,6 +384,12 @@ public final class BoundaryDayTest {
         CHECK.due("0 or -2", joyBy("0 or 0-2", one), 1);
         CHECK.due("0 or 0", joyBy("0 or 0", one), 0);
         CHECK.due("2 and 0", joyBy("2 and 0", one), 0);
+        CHECK.due("0 and 2", joyBy("0 and 2", one), 0);
+        CHECK.due("0 and 1", joyBy("0 and 1", one), 0);
+        CHECK.due("1 and 1", joyBy("1 and 1", one), 1);
+        CHECK.due("1 and 0", joyBy("1 and 0", one), 0);
+        CHECK.due("2 or 0", joyBy("2 or 0", one), 1);
+        CHECK.due("1 or 1", joyBy("1 or 1", one), 1);
         CHECK.due("not 0", joyBy("not 0", one), 1);
         CHECK.due("-1 < 0", joyBy("0-1<0", one), 1);
         CHECK.due("0 < 0", joyBy("0<0", one), 0);
@@ -411,6 +458,11 @@ public final class BoundaryDayTest {
         for (int i = 0; i < 4; i++) {
             CHECK.due("key " + (5 + i), x.key(5 + i), wear[i]);
         }
+        StationPiano nine = Check.told("tune a 0 1 2 3 4 5 6 7 11;" + Check.who("p", "drunk", "a", 0, 0, 1, 0));
+        nine.day();
+        CHECK.due("a drunk's first of nine keys", nine.key(0), 2);
+        CHECK.due("his second", nine.key(1), 2);
+        CHECK.due("his last", nine.key(11), 2);
         CHECK.of(13, "DAY: it passes; the KEYS stay as they are worn.");
         CHECK.due("the day", x.count(7), 1);
         CHECK.due("as foretold", x.joy(), x.day());
@@ -433,6 +485,7 @@ public final class BoundaryDayTest {
         keys();
         minutes();
         wrongOnes();
+        askedAlone();
         lineOrder();
         waiting();
         daring();

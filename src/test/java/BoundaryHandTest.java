@@ -195,6 +195,9 @@ public final class BoundaryHandTest {
             CHECK.due("judging changes nothing: count(" + i + ")", x.count(i), counts[i]);
         }
         CHECK.due("nor what can be undone", x.count(12), 7);
+        StationPiano from = Check.told(ONE + "waits 0;joys 5;");
+        Check.planned(from, "open 1 to 60;day;open 0 to 60;day;open 1 to 2;day;");
+        CHECK.due("open from", from.judged(1), 5);
     }
 
     private static void markBounds() {
@@ -273,6 +276,29 @@ public final class BoundaryHandTest {
         CHECK.due("and no further", x.undo(), false);
     }
 
+    private static void markFound() {
+        CHECK.of(34, "the WEEK, FOUND");
+        StationPiano x = Check.told("tune a 3;tune b 5 5;" + Check.who("p", "plain", "a", 1, 0, 1, 0) + Check.who("q", "plain", "b", 1, 0, 1, 5));
+        x.mark(2, false);
+        x.find(3, 1);
+        x.find(5, 0);
+        x.mark(0, false);
+        x.find(5, 2);
+        CHECK.due("it can't be", x.sets(0), 0);
+        x.mark(2, true);
+        CHECK.due("nothing is found", x.sets(0), 4);
+        x.find(5, 2);
+        x.find(3, 0);
+        CHECK.due("the second alone", x.sets(1), 2);
+        x.mark(1, false);
+        x.mark(0, true);
+        CHECK.due("the first", x.sets(1), 1);
+        CHECK.due("alone", x.sets(2), 1);
+        x.mark(1, true);
+        CHECK.due("the second again", x.sets(1), 2);
+        CHECK.due("two are found", x.count(11), 2);
+    }
+
     private static void markFull() {
         CHECK.of(34, "A MARK is laid (back: gone back to)");
         StationPiano x = Check.told(ONE + "wears 0;");
@@ -336,6 +362,7 @@ public final class BoundaryHandTest {
         judgedFromBeginning();
         markBounds();
         markHolds();
+        markFound();
         markFull();
         counts();
         CHECK.namesAll(14, 18);

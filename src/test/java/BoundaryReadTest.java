@@ -182,6 +182,13 @@ public final class BoundaryReadTest {
         for (String kind : new String[] {"plain", "finger", "drunk", "earner"}) {
             good(A + "passer p " + kind + " plays a skill 0 shy 0 stays 1 comes 0;");
         }
+        for (String word : KEPT) {
+            if (!" plain finger drunk earner ".contains(" " + word + " ")) {
+                bad(1, A + "passer p ^" + word + " plays a skill 0 shy 0 stays 1 comes 0;");
+            }
+        }
+        bad(1, A + "passer p ^0 plays a skill 0 shy 0 stays 1 comes 0;");
+        bad(1, A + "passer p ^able plays a skill 0 shy 0 stays 1 comes 0;");
         bad(1, A + "passer p ^sober plays a skill 0 shy 0 stays 1 comes 0;");
         bad(1, A + "passer p ^plays a skill 0 shy 0 stays 1 comes 0;");
         bad(1, A + "passer p ^a plays a skill 0 shy 0 stays 1 comes 0;");
@@ -348,6 +355,15 @@ public final class BoundaryReadTest {
         good("wears long;");
         bad(1, "joys ^used;");
         bad(1, "joys ^long;");
+        for (String law : new String[] {"joys", "wears"}) {
+            bad(1, law + " ^foo;");
+            bad(1, law + " ^ables;");
+            for (String word : KEPT) {
+                if (!word.equals("not")) {
+                    bad(1, law + " ^" + word + ";");
+                }
+            }
+        }
     }
 
     private static void depths() {
@@ -494,6 +510,17 @@ public final class BoundaryReadTest {
         x.station();
         CHECK.due("what is read is taken", x.station(), 0);
         CHECK.due("the empty tape is an empty station", x.count(0), 0);
+        for (int round = 0; round < 3; round++) {
+            Check.feed(x, A + "passer p" + P + "waits 9;each 9;open 3 to 9;price 9;joys 7;wears 5;");
+            x.station();
+            Check.feed(x, round < 2 ? A + "passer p" + P : "");
+            CHECK.due("one without settings behind one with all", x.station(), 0);
+            seen(x, "nothing is left", new int[] {round < 2 ? 1 : 0, round < 2 ? 1 : 0, 5, 30, 0, 60, 60});
+            CHECK.due("nor a law", x.joy(), round < 2 ? -1 : 0);
+            Check.feed(x, round == 1 ? "each 9;open 3 to 9;x" : "");
+            x.station();
+            seen(x, "nor of one with a fault", new int[] {round == 1 ? 1 : 0, round == 1 ? 1 : 0, 5, 30, 0, 60, 60});
+        }
     }
 
     private static void weeks() {
