@@ -1,4 +1,4 @@
-/** The sentences that name no boundary and stand in no Boundary test, each with answers worked out by hand. */
+/** Most of the sentences that stand in no Boundary test, each with answers worked out by hand. */
 public final class SentenceTest {
     private static final Check CHECK = new Check();
     private static final String SIX_TUNES = "tune a 0;tune b 1;tune c 2;tune d 3;tune e 4;tune f 5;";
